@@ -38,7 +38,7 @@ final class Snapshot {
             for (int skater = 0; skater < 6; skater++) {
                 for (char what : "stfb".toCharArray()) {
                     int member = skater;
-                    add("told", () -> (int) house.told(number, member, what));
+                    add("told", () -> house.told(number, member, what));
                 }
             }
         }
