@@ -101,7 +101,6 @@ public final class Jamhouse {
         Skater skater = joined.members[joined.size];
         skater.speed = speed;
         skater.strength = strength;
-        skater.freshen();
         joined.size++;
         return joined.size - 1;
     }
@@ -693,7 +692,7 @@ public final class Jamhouse {
         }
     }
 
-    /** A crew; the members behind its size are spare ones. */
+    /** A crew; the members behind its size are spare ones, which nobody has been yet. */
     private static final class Crew {
         final Skater[] members = new Skater[MAX_SKATERS];
         int size;
@@ -753,7 +752,6 @@ public final class Jamhouse {
             crewNumbers[0] = crew;
             crewNumbers[1] = other;
             isSecondPeriod = false;
-            isOvertime = false;
             isBehindTimeOut = false;
             clock = 0;
             jamsEnded = 0;
@@ -834,7 +832,10 @@ public final class Jamhouse {
         }
     }
 
-    /** Somebody in a jam. */
+    /**
+     * Somebody in a jam. downFor, toServe, served and pusher tell something only of who stands so that
+     * it matters; toServe is 0 of all who are not in the box.
+     */
     private static final class Player {
         final int team;
         final int slot;
@@ -1146,10 +1147,7 @@ public final class Jamhouse {
             player.place = entry + TRACK * Math.floorDiv(player.place - entry + TRACK / 2, TRACK);
             player.lane = 2;
             player.standing = UP;
-            player.downFor = 0;
-            player.pusher = NOBODY;
             player.toServe = 0;
-            player.served = 0;
         }
 
         /** Calls nothing: in a jam that is gone through again it is the deepest call. */
@@ -1270,7 +1268,6 @@ public final class Jamhouse {
                     && player.place > at(1 - player.team, player.pusher).place;
             player.lane = player.lane < 0 ? 0 : LAST_LANE;
             player.standing = UP;
-            player.pusher = NOBODY;
             return isCut ? foul(player, 'u') : DONE;
         }
 

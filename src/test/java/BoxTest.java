@@ -11,6 +11,7 @@ public final class BoxTest {
         backBehindThePack();
         backByLaps();
         backWithoutAPack();
+        backWithoutAPackAhead();
         backWithoutAny();
         backMovesAsTold();
         twoStars();
@@ -180,6 +181,47 @@ public final class BoxTest {
                 -150 - 20 + 240);
     }
 
+    private static void backWithoutAPackAhead() {
+        Jamhouse house = Houses.jam();
+        for (int slot = 1; slot < 5; slot++) {
+            house.penalty(1, slot, 'a');
+        }
+        for (int slot = 1; slot < 5; slot++) {
+            house.order(0, slot, 9, 0);
+        }
+        house.go(5);
+        for (int slot = 1; slot < 5; slot++) {
+            house.order(0, slot, 0, 0);
+        }
+        house.go(25);
+        Check.due("the hindmost is ahead", house.place(0, 4), 2 + 45);
+        Check.due("20 behind that one", house.place(1, 1), 47 - 20);
+        Jamhouse jammer = Houses.jam();
+        jammer.order(0, 0, 8, 0);
+        jammer.go(2);
+        jammer.passStar(0);
+        jammer.order(0, 0, -3, 0);
+        for (int slot = 1; slot < 5; slot++) {
+            jammer.penalty(1, slot, 'a');
+        }
+        jammer.go(5);
+        jammer.order(0, 0, 0, 0);
+        jammer.go(25);
+        Check.due("the jammer without the star is the hindmost", jammer.place(0, 0), 6 - 15);
+        Check.due("20 behind that one", jammer.place(1, 1), -9 - 20);
+        Jamhouse pivot = Houses.jam();
+        pivot.order(0, 0, 8, 0);
+        pivot.go(2);
+        pivot.passStar(0);
+        pivot.order(0, 0, 0, 0);
+        pivot.order(0, 1, -3, 0);
+        for (int slot = 1; slot < 5; slot++) {
+            pivot.penalty(1, slot, 'a');
+        }
+        pivot.go(30);
+        Check.due("the pivot with the star is not", pivot.place(1, 1), 2 - 20);
+    }
+
     private static void backWithoutAny() {
         Jamhouse house = Houses.jam();
         for (int team = 0; team < 2; team++) {
@@ -225,6 +267,11 @@ public final class BoxTest {
         Check.due("that one is back at once", house.standing(0, 0), 'u');
         Check.due("20 behind the pack", house.place(0, 0), -18);
         Check.due("in the lane 2", house.lane(0, 0), 2);
+        long sum = house.seconds();
+        for (int i = 0; i < 10; i++) {
+            sum = 31 * sum + house.place(i / 5, i % 5) + 7 * house.lane(i / 5, i % 5) + (i == 5 ? 3 * 12 : 0);
+        }
+        Check.due("checksum(): of who has come back 0", house.checksum(), sum);
         Check.due("this one sits", house.standing(1, 0), 's');
         Check.due("just as long as that one did", house.left(1, 0), 12);
         house.go(11);

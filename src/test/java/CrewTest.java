@@ -86,6 +86,8 @@ public final class CrewTest {
         Check.due("who was last", house.told(0, 2, 's'), 4);
         Check.outOfBounds("the last number", () -> house.told(0, 3, 's'));
         Check.due("a new one behind", house.skater(0, 7, 0), 3);
+        Check.due("who was last, behind that", house.told(0, 2, 's'), 4);
+        Check.due("who came, behind that", house.told(1, 1, 's'), 2);
         Check.due("to an empty crew", house.transfer(0, 3, 2), 0);
         Check.due("who came there", house.told(2, 0, 's'), 7);
         for (int i = 2; i < 10; i++) {
@@ -104,6 +106,9 @@ public final class CrewTest {
         for (int i = 0; i < 5; i++) {
             house.skater(2, 2, 2);
         }
+        house.crew();
+        Check.due("between crews that are in no game", house.transfer(2, 0, 3), 0);
+        Check.due("and back", house.transfer(3, 0, 2), 4);
         Check.unsupported("from a crew in a game", () -> house.transfer(0, 0, 2));
         Check.unsupported("to a crew in a game", () -> house.transfer(2, 0, 1));
         house.penalty(0, 2, 'a');
@@ -122,9 +127,10 @@ public final class CrewTest {
         Check.due("seconds go along", house.told(2, 5, 'b'), 30);
         Check.due("tiredness goes along", house.told(2, 5, 't'), tired);
         Check.due("who is there now has none", house.told(0, 2, 'f'), 0);
-        house.game(2, 1);
+        house.game(1, 2);
         Check.due("a game begins without fouls", house.told(2, 5, 'f'), 0);
         Check.due("a game begins without seconds", house.told(2, 5, 'b'), 0);
+        Check.due("a game begins without tiredness", house.told(2, 5, 't'), 0);
     }
 
     private static void promise5Told() {

@@ -185,6 +185,16 @@ public final class EventTest {
         Check.due("told 9 with the speed 6", slow.block(0, 3, 3, 'h', 'f'), 'd');
         Check.due("tiredness 16", tiredBlock(4), 'd');
         Check.due("tiredness 20", tiredBlock(5), 'm');
+        Jamhouse nearly = Houses.jam(5, 2);
+        for (int slot = 2; slot < 5; slot++) {
+            nearly.order(0, slot, 9, 0);
+            nearly.order(1, slot, 9, 0);
+        }
+        nearly.go(4);
+        nearly.order(0, 2, 8, 0);
+        nearly.go(1);
+        nearly.order(0, 2, 0, 0);
+        Check.due("tiredness 19", nearly.block(0, 2, 2, 'h', 'f'), 'd');
     }
 
     /** A block whose strengths tell 3, by one who went 9 in each of some seconds, amid others. */

@@ -5,6 +5,8 @@ public final class GameTest {
 
     public static void main(String[] args) {
         promise8Game();
+        promise8GameBeginsAnew();
+        promise8TimeoutOfTheGameBefore();
         promise9Line();
         promise9LineBounds();
         promise10Start();
@@ -13,6 +15,7 @@ public final class GameTest {
         promise10SixtyJams();
         promise11End();
         promise11Rest();
+        promise11RestOfTheOtherTeam();
         promise12Clock();
         promise13NextPeriod();
         promise14Timeout();
@@ -54,6 +57,84 @@ public final class GameTest {
         Houses.playPeriod(house);
         house.finish();
         Check.due("the third game of the same", house.game(0, 1), 2);
+    }
+
+    /** What a game leaves behind does not tell in the next one. */
+    private static void promise8GameBeginsAnew() {
+        Jamhouse house = Houses.game(5, 5);
+        house.line(0, 0, 3);
+        house.line(1, 4, 5);
+        for (int team = 0; team < 2; team++) {
+            for (int i = 0; i < 3; i++) {
+                house.timeout(team);
+            }
+        }
+        house.start();
+        house.penalty(1, 0, 'a');
+        for (int slot = 0; slot < 5; slot++) {
+            house.order(0, slot, 9, 0);
+            house.order(1, slot, 9, 0);
+        }
+        house.review(0, 0, false);
+        house.review(1, 0, false);
+        house.go(120);
+        house.end();
+        Houses.lappingJam(house, 0);
+        Houses.lappingJam(house, 0);
+        Houses.playPeriod(house);
+        house.nextPeriod();
+        for (int slot = 0; slot < 5; slot++) {
+            house.line(0, slot, slot);
+        }
+        for (int i = 0; i < 12; i++) {
+            house.start();
+            house.order(0, 0, 9, 0);
+            house.order(0, 4, 9, 0);
+            house.order(1, 0, i < 6 ? 0 : 9, 0);
+            house.order(1, 3, 9, 0);
+            house.go(120);
+            house.end();
+        }
+        Check.isTrue("tired", house.told(0, 0, 't') > 60 && house.told(1, 0, 't') > 60);
+        Check.isTrue("a foul", house.told(1, 0, 'f') == 1);
+        house.finish();
+        house.game(0, 1);
+        for (int team = 0; team < 2; team++) {
+            Check.due("score", house.score(team), 0);
+            Check.due("no tiredness", house.told(team, 0, 't'), 0);
+            for (int slot = 0; slot < 5; slot++) {
+                Check.due("the line", house.line(team, slot, slot), slot);
+            }
+        }
+        Check.due("no fouls", house.told(1, 0, 'f'), 0);
+        Check.due("no seconds", house.told(1, 0, 'b'), 0);
+        Check.due("clock", house.clock(), 0);
+        Houses.idleJam(house);
+        Check.dueReal("no leads", house.leadShare(0), 0);
+        Check.dueReal("no points", house.meanPoints(), 0);
+        house.start();
+        house.go(1);
+        for (int team = 0; team < 2; team++) {
+            Check.due("a review", house.review(team, 0, false), 0);
+        }
+        house.go(120);
+        house.end();
+        for (int team = 0; team < 2; team++) {
+            Check.due("time-outs", house.timeout(team), 2);
+        }
+    }
+
+    private static void promise8TimeoutOfTheGameBefore() {
+        Jamhouse house = Houses.game(5, 5);
+        Houses.lappingJam(house, 0);
+        Houses.playPeriod(house);
+        house.nextPeriod();
+        Houses.playPeriod(house);
+        house.timeout(0);
+        house.finish();
+        house.game(0, 1);
+        house.start();
+        Check.due("a line-up", house.clock(), 30);
     }
 
     private static void promise9Line() {
@@ -207,6 +288,9 @@ public final class GameTest {
         house.end();
         int tired = house.told(0, 4, 't');
         Check.isTrue("a tired one", tired > 90);
+        for (int slot = 0; slot < 5; slot++) {
+            Check.due("tiredness of all", house.told(0, slot, 't'), tired);
+        }
         house.line(0, 4, 5);
         house.start();
         house.go(120);
@@ -219,7 +303,24 @@ public final class GameTest {
         Check.due("how far", house.place(0, 3), 4 + 9 - (tired - 30) / 20);
         house.go(119);
         house.end();
-        Check.due("not below 0", house.told(0, 4, 't'), Math.max(0, tired - 120));
+        Check.due("again", house.told(0, 4, 't'), tired - 120);
+        house.line(1, 0, 5);
+        Houses.idleJam(house);
+        Houses.idleJam(house);
+        Check.due("not below 0", house.told(0, 4, 't'), 0);
+        Check.due("nor of the other team", house.told(1, 0, 't'), 0);
+    }
+
+    private static void promise11RestOfTheOtherTeam() {
+        Jamhouse house = Houses.jam();
+        house.order(1, 0, 9, 0);
+        house.go(120);
+        house.end();
+        int tired = house.told(1, 0, 't');
+        house.line(1, 0, 5);
+        Houses.idleJam(house);
+        Check.due("who was not in the line", house.told(1, 0, 't'), tired - 60);
+        Check.due("who never was", house.told(1, 1, 't'), 0);
     }
 
     private static void promise12Clock() {
@@ -263,6 +364,7 @@ public final class GameTest {
         house.go(120);
         Check.badState("nextPeriod() in a jam that is over", house::nextPeriod);
         house.review(0, 0, false);
+        house.review(1, 0, false);
         house.end();
         Check.due("clock() at the end", house.clock(), 1800);
         Check.due("nextPeriod()", house.nextPeriod(), 1);
@@ -270,6 +372,8 @@ public final class GameTest {
         house.start();
         house.go(120);
         Check.due("a review in each period", house.review(0, 0, false), 0);
+        Check.due("of each team", house.review(1, 0, false), 0);
+        Check.unsupported("not a second one", () -> house.review(1, 0, true));
         house.end();
         Houses.playPeriod(house);
         Check.unsupported("nextPeriod() behind the second", house::nextPeriod);
@@ -364,57 +468,47 @@ public final class GameTest {
         Check.due("the other rating", even.rating(1), 500 + won / 4);
     }
 
-    /** The ratings go apart by each game; the difference of scores is less a tenth of theirs. */
+    /** With the ratings 550 and 450, a win by 5 is told as one by 15 or is less than none. */
     private static void promise16RatingChange() {
-        Jamhouse house = Houses.crews(5, 5);
-        int difference = 0;
-        for (int i = 0; i < 3; i++) {
-            house.game(0, 1);
-            for (int j = 0; j < 10; j++) {
-                house.line(0, 0, j % 6);
-                Houses.lappingJam(house, 0);
-            }
-            int score = house.score(0);
+        int[][] games = {{1, 0, 0, 3}, {0, 1, 1, -3}, {0, 1, 0, -1}, {1, 0, 1, 1}};
+        for (int[] row : games) {
+            Jamhouse house = wonByMany(0);
+            house.game(row[0], row[1]);
+            Houses.lappingJam(house, row[2]);
+            Check.due("the score", house.score(row[2]), 5);
             Houses.playPeriod(house);
             house.nextPeriod();
             Houses.playPeriod(house);
-            int change = (score - difference / 10) / 4;
-            Check.isTrue("a change", change > 4);
-            Check.due("finish()", house.finish(), change);
-            difference += 2 * change;
-            Check.due("rating(0)", house.rating(0), 500 + difference / 2);
-            Check.due("rating(1)", house.rating(1), 500 - difference / 2);
+            Check.due("finish()", house.finish(), row[3]);
+            Check.due("the first crew", house.rating(row[0]), (row[0] == 0 ? 550 : 450) + row[3]);
+            Check.due("the second crew", house.rating(row[1]), (row[1] == 0 ? 550 : 450) - row[3]);
         }
-        Check.isTrue("a difference that tells", difference >= 50);
-        house.game(1, 0);
-        Houses.lappingJam(house, 0);
-        int score = house.score(0);
-        Houses.playPeriod(house);
-        house.nextPeriod();
-        Houses.playPeriod(house);
-        Check.due("who was behind wins", house.finish(), (score + difference / 10) / 4);
     }
 
     private static void promise16RatingLimit() {
         for (int team = 0; team < 2; team++) {
-            Jamhouse house = Houses.crews(5, 5);
-            for (int i = 6; i < 10; i++) {
-                house.skater(0, 9, 5);
-                house.skater(1, 9, 5);
-            }
-            house.game(0, 1);
-            for (int j = 0; j < 12; j++) {
-                manyPoints(house, team, j);
-            }
-            house.nextPeriod();
-            for (int j = 0; j < 12; j++) {
-                manyPoints(house, team, j);
-            }
-            Check.isTrue("a great difference", house.score(team) >= 204);
-            Check.due("finish()", house.finish(), team == 0 ? 50 : -50);
+            Jamhouse house = wonByMany(team);
             Check.due("rating of who won", house.rating(team), 550);
             Check.due("rating of who lost", house.rating(1 - team), 450);
         }
+    }
+
+    private static Jamhouse wonByMany(int team) {
+        Jamhouse house = Houses.crews(5, 5);
+        for (int i = 6; i < 10; i++) {
+            house.skater(0, 9, 5);
+            house.skater(1, 9, 5);
+        }
+        house.game(0, 1);
+        for (int i = 0; i < 24; i++) {
+            if (i == 12) {
+                house.nextPeriod();
+            }
+            manyPoints(house, team, i);
+        }
+        Check.isTrue("a great difference", house.score(team) >= 204);
+        Check.due("finish()", house.finish(), team == 0 ? 50 : -50);
+        return house;
     }
 
     /** The others go backward, so that they are lapped more than once. */

@@ -21,6 +21,8 @@ public final class JamTest {
         promise38SplitByWhoChangedMost();
         promise38SplitByNobody();
         promise38NoSplitWithoutSeconds();
+        promise38SplitByTheJammerWithoutTheStar();
+        aJamBeginsAnew();
         promise43IsOver();
         promise44Seconds();
         tiredness();
@@ -154,6 +156,7 @@ public final class JamTest {
         Check.badArgument("a letter above", () -> house.marks(0, 0, (char) ('z' + 1)));
         Check.due("none", house.marks(0, 3, 'f'), 0);
         house.penalty(0, 3, 'a');
+        Check.due("whether any, with one", house.marks(0, 3, 'f'), 1);
         house.go(30);
         house.penalty(0, 3, 'z');
         house.go(30);
@@ -389,6 +392,58 @@ public final class JamTest {
         Check.noElement("events split nothing", house::splitBy);
         house.go(1);
         Check.noElement("there was none as it began", house::splitBy);
+        Jamhouse unasked = Houses.jam();
+        unasked.go(1);
+        for (int slot = 1; slot < 5; slot++) {
+            unasked.penalty(1, slot, 'a');
+        }
+        unasked.order(0, 1, 9, 0);
+        unasked.go(1);
+        Check.noElement("nor if nobody asked for it", unasked::splitBy);
+        unasked.correct(5);
+        Check.noElement("nor as it is gone through again", unasked::splitBy);
+    }
+
+    /** The jammer of team 0, without the star, changes the place most. */
+    private static void promise38SplitByTheJammerWithoutTheStar() {
+        Jamhouse house = Houses.jam();
+        house.order(0, 0, 8, 0);
+        house.go(2);
+        house.order(0, 0, 0, 0);
+        house.passStar(0);
+        for (int slot = 2; slot < 5; slot++) {
+            house.penalty(0, slot, 'a');
+        }
+        Check.due("the jammer is all that team 0 has", house.pack(), 5);
+        house.order(0, 0, -3, 0);
+        for (int slot = 1; slot < 5; slot++) {
+            house.order(1, slot, 2, 0);
+        }
+        house.go(3);
+        Check.due("no pack", house.pack(), 0);
+        Check.due("splitBy", house.splitBy(), 0);
+    }
+
+    /** What somebody was told in a jam is not told in the next one. */
+    private static void aJamBeginsAnew() {
+        Jamhouse house = Houses.jam(9, 0);
+        house.order(0, 1, 3, 1);
+        house.order(0, 2, 0, -1);
+        house.go(119);
+        house.penalty(0, 3, 'a');
+        house.block(0, 4, 4, 'h', 'f');
+        house.go(1);
+        Check.due("out", house.standing(0, 2), 'o');
+        Check.due("down", house.standing(1, 4), 'd');
+        house.end();
+        house.start();
+        house.go(3);
+        Check.due("no speed is told", house.place(0, 1), 8);
+        Check.due("no shift is told", house.lane(0, 1), 1);
+        for (int slot = 1; slot < 5; slot++) {
+            Check.due("all are up", house.standing(0, slot), 'u');
+            Check.due("all are up", house.standing(1, slot), 'u');
+        }
     }
 
     private static void promise43IsOver() {

@@ -13,6 +13,7 @@ public final class PassTest {
         promise39LeadOfThePivot();
         promise40Points();
         promise40PointsForWhoIsAbsent();
+        promise40PointsForTheJammerWithoutTheStar();
         promise40PointsOnce();
         promise41Passes();
         promise41PassesOnlyWhoIsThere();
@@ -22,6 +23,7 @@ public final class PassTest {
         promise42LapsBelow();
         overtime();
         overtimeWhoIsAbsent();
+        overtimeBelow();
         Check.close("PassTest");
     }
 
@@ -275,6 +277,21 @@ public final class PassTest {
         Check.isFalse("a star in the box is not passed so", star.hasPassed(1, 0, 1));
     }
 
+    private static void promise40PointsForTheJammerWithoutTheStar() {
+        Jamhouse house = Houses.jam();
+        house.order(1, 0, 9, 0);
+        house.order(0, 0, 9, 0);
+        house.go(2);
+        house.passStar(1);
+        house.order(1, 0, 0, -1);
+        goUntilPlace(house, 220);
+        Check.due("out", house.standing(1, 0), 'o');
+        for (int i = 0; i < 60 && house.points(0) == 0; i++) {
+            house.go(1);
+        }
+        Check.isTrue("out, without the star", house.hasPassed(1, 0, 1));
+    }
+
     private static void goUntilPlace(Jamhouse house, int place) {
         for (int i = 0; i < 120 && house.place(0, 0) < place; i++) {
             house.go(1);
@@ -464,6 +481,18 @@ public final class PassTest {
         Check.isFalse("not the other star", house.hasPassed(1, 0, 0));
         house.order(0, 0, -3, 0);
         house.go(30);
-        Check.due("passes below the lap 0 are no points", house.points(0), 3);
+        Check.due("passing less of them is no point", house.points(0), 3);
+    }
+
+    private static void overtimeBelow() {
+        Jamhouse house = Houses.overtime();
+        house.order(0, 0, -3, 0);
+        house.order(1, 4, 1, 0);
+        house.go(70);
+        house.order(0, 0, 9, 0);
+        house.order(1, 4, 0, 0);
+        house.go(20);
+        Check.isTrue("lap -1", house.hasPassed(1, 4, -1));
+        Check.due("is no point", house.points(0), 0);
     }
 }
