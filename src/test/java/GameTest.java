@@ -22,6 +22,7 @@ public final class GameTest {
         promise15Score();
         promise16Finish();
         promise16RatingChange();
+        promise16RatingTenth();
         promise16RatingLimit();
         throwsChangeNothing();
         Check.close("GameTest");
@@ -97,6 +98,8 @@ public final class GameTest {
         }
         Check.isTrue("tired", house.told(0, 0, 't') > 60 && house.told(1, 0, 't') > 60);
         Check.isTrue("a foul", house.told(1, 0, 'f') == 1);
+        house.line(0, 0, 5);
+        house.line(1, 0, 1);
         house.finish();
         house.game(0, 1);
         for (int team = 0; team < 2; team++) {
@@ -151,6 +154,8 @@ public final class GameTest {
         Check.due("another slot", house.line(0, 4, 2), 4);
         Check.due("the slot of who changed", house.line(0, 2, 0), 4);
         Check.due("the other team's", house.line(1, 3, 5), 3);
+        Check.due("who is in slot 0 into slot 2", house.line(1, 2, 0), 2);
+        Check.due("who changed places", house.line(1, 0, 2), 2);
         house.start();
         Check.badState("line in a jam", () -> house.line(0, 0, 0));
         Check.badState("line in a jam, the skater not told", () -> house.line(0, 0, 99));
@@ -483,6 +488,24 @@ public final class GameTest {
             Check.due("the first crew", house.rating(row[0]), (row[0] == 0 ? 550 : 450) + row[3]);
             Check.due("the second crew", house.rating(row[1]), (row[1] == 0 ? 550 : 450) - row[3]);
         }
+    }
+
+    /** With 6 points: a tenth of 100 is 10, and 16 is just enough for 4. */
+    private static void promise16RatingTenth() {
+        Jamhouse house = wonByMany(0);
+        house.game(1, 0);
+        house.start();
+        house.order(0, 0, 9, 0);
+        house.order(1, 4, -3, 0);
+        house.go(80);
+        house.order(1, 4, 0, 0);
+        house.go(40);
+        house.end();
+        Check.due("the score, one being lapped twice", house.score(0), 6);
+        Houses.playPeriod(house);
+        house.nextPeriod();
+        Houses.playPeriod(house);
+        Check.due("finish()", house.finish(), 4);
     }
 
     private static void promise16RatingLimit() {

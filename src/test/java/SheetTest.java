@@ -68,6 +68,10 @@ public final class SheetTest {
         Check.noElement("one is not there", () -> house.official(1));
         house.signal(2, 1, 0);
         Check.due("of three like ones", house.official(1), 0);
+        house.signal(0, 1, 9);
+        house.signal(1, 1, 8);
+        house.signal(2, 1, 7);
+        Check.due("the middle one of team 1", house.official(1), 8);
         for (int missing = 0; missing < 3; missing++) {
             Jamhouse other = Houses.jam();
             other.signal((missing + 1) % 3, 0, 1);
