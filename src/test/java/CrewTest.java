@@ -12,7 +12,6 @@ public final class CrewTest {
         promise5Told();
         promise6Rating();
         promise7Rank();
-        throwsChangeNothing();
         Check.close("CrewTest");
     }
 
@@ -183,12 +182,6 @@ public final class CrewTest {
         Check.due("who lost", house.rank(0), 2);
         Check.due("who won", house.rank(1), 0);
         Check.due("who did not play", house.rank(2), 1);
-    }
-
-    private static void throwsChangeNothing() {
-        Snapshot.unchanged("skater(0, 10, 5)", Houses::jam, house -> house.skater(0, 10, 5));
-        Snapshot.unchanged("transfer(0, 0, 0)", Houses::jam, house -> house.transfer(0, 0, 0));
-        Snapshot.unchanged("transfer(0, 1, 1)", Houses::jam, house -> house.transfer(0, 1, 1));
     }
 
     /** A game in which only the winner has points, five of them. */

@@ -25,7 +25,6 @@ public final class EventTest {
         promise23ComeBackAheadOfWhoPushed();
         promise23PushIsForgotten();
         twoHundredEvents();
-        throwsChangeNothing();
         Check.close("EventTest");
     }
 
@@ -604,20 +603,5 @@ public final class EventTest {
         Check.due("events", house.events(), 200);
         house.correct(199);
         Check.badState("void ones count", () -> house.order(0, 2, 0, 0));
-    }
-
-    private static void throwsChangeNothing() {
-        Snapshot.unchanged("order(0, 0, 10, 0)", EventTest::atPivot, house -> house.order(0, 0, 10, 0));
-        Snapshot.unchanged("go(121)", EventTest::atPivot, house -> house.go(121));
-        Snapshot.unchanged("block(0, 2, 0, ..)", EventTest::atPivot, house -> house.block(0, 2, 0, 'h', 'f'));
-        Snapshot.unchanged("penalty(0, 0, 'f')", EventTest::atPivot, house -> house.penalty(0, 0, 'f'));
-        Snapshot.unchanged("passStar(1)", EventTest::atPivot, house -> house.passStar(1));
-        Snapshot.unchanged("callOff(1)", EventTest::atPivot, house -> house.callOff(1));
-        Snapshot.unchanged("comeBack(0, 0)", EventTest::atPivot, house -> house.comeBack(0, 0));
-        Snapshot.unchanged("penalty of who is in the box", () -> {
-            Jamhouse house = atPivot();
-            house.penalty(0, 3, 'a');
-            return house;
-        }, house -> house.penalty(0, 3, 'b'));
     }
 }

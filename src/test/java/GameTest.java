@@ -24,7 +24,6 @@ public final class GameTest {
         promise16RatingChange();
         promise16RatingTenth();
         promise16RatingLimit();
-        throwsChangeNothing();
         Check.close("GameTest");
     }
 
@@ -544,21 +543,5 @@ public final class GameTest {
         }
         house.go(120);
         house.end();
-    }
-
-    private static void throwsChangeNothing() {
-        Snapshot.unchanged("game(0, 1)", Houses::jam, house -> house.game(0, 1));
-        Snapshot.unchanged("line(0, 0, 5)", Houses::jam, house -> house.line(0, 0, 5));
-        Snapshot.unchanged("line(0, 0, 6)", () -> Houses.game(5, 5), house -> house.line(0, 0, 6));
-        Snapshot.unchanged("start()", Houses::jam, Jamhouse::start);
-        Snapshot.unchanged("start()", () -> {
-            Jamhouse house = Houses.game(5, 5);
-            Houses.playPeriod(house);
-            return house;
-        }, Jamhouse::start);
-        Snapshot.unchanged("end()", Houses::jam, Jamhouse::end);
-        Snapshot.unchanged("nextPeriod()", Houses::jam, Jamhouse::nextPeriod);
-        Snapshot.unchanged("timeout(0)", Houses::jam, house -> house.timeout(0));
-        Snapshot.unchanged("finish()", Houses::atTheEnd, Jamhouse::finish);
     }
 }

@@ -11,7 +11,6 @@ public final class SheetTest {
         promise49Checksum();
         promise50LeadShare();
         promise51MeanPoints();
-        throwsChangeNothing();
         Check.close("SheetTest");
     }
 
@@ -189,18 +188,5 @@ public final class SheetTest {
         house.order(0, 0, 9, 0);
         house.go(120);
         Check.dueReal("not in the jam", house.meanPoints(), 10.0 / 3.0);
-    }
-
-    private static void throwsChangeNothing() {
-        Snapshot.unchanged("signal(0, 0, 100)", SheetTest::signalled, house -> house.signal(0, 0, 100));
-        Snapshot.unchanged("signal(0, 2, 5)", SheetTest::signalled, house -> house.signal(0, 2, 5));
-    }
-
-    private static Jamhouse signalled() {
-        Jamhouse house = Houses.jam();
-        for (int referee = 0; referee < 3; referee++) {
-            house.signal(referee, 0, referee);
-        }
-        return house;
     }
 }

@@ -15,7 +15,6 @@ public final class TakeBackTest {
         promise27Review();
         promise27ReviewTellsFirstWhatIsFirst();
         promise52IsSound();
-        throwsChangeNothing();
         Check.close("TakeBackTest");
     }
 
@@ -281,20 +280,5 @@ public final class TakeBackTest {
         Check.isTrue("in overtime", overtime.isSound());
         overtime.correct(0);
         Check.isTrue("in overtime, with one taken back", overtime.isSound());
-    }
-
-    private static void throwsChangeNothing() {
-        Snapshot.unchanged("correct(10)", TakeBackTest::allKinds, house -> house.correct(10));
-        Snapshot.unchanged("correct of a void one", TakeBackTest::withVoid, house -> house.correct(3));
-        Snapshot.unchanged("review of a void one", TakeBackTest::withVoid, house -> house.review(0, 3, true));
-        Snapshot.unchanged("review with none left", TakeBackTest::withVoid, house -> house.review(1, 2, true));
-        Snapshot.unchanged("eventAt(10)", TakeBackTest::allKinds, house -> house.eventAt(10));
-    }
-
-    private static Jamhouse withVoid() {
-        Jamhouse house = allKinds();
-        house.correct(3);
-        house.review(1, 2, false);
-        return house;
     }
 }
