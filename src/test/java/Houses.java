@@ -31,6 +31,31 @@ final class Houses {
         return jam(5, 5);
     }
 
+    /** Two crews of five with the speeds and strengths that are told by slots, in a jam. */
+    static Jamhouse jamOf(int[] speeds, int[] strengths, int[] otherSpeeds, int[] otherStrengths) {
+        Jamhouse house = new Jamhouse();
+        house.crew();
+        house.crew();
+        for (int i = 0; i < 5; i++) {
+            house.skater(0, speeds[i], strengths[i]);
+            house.skater(1, otherSpeeds[i], otherStrengths[i]);
+        }
+        house.game(0, 1);
+        house.start();
+        return house;
+    }
+
+    /** Somebody goes to a place, in as many seconds as that needs, and is told to stay there. */
+    static void send(Jamhouse house, int team, int slot, int place) {
+        for (int i = 0; i < 120 && house.place(team, slot) != place; i++) {
+            int difference = place - house.place(team, slot);
+            house.order(team, slot, Math.max(-3, Math.min(9, difference)), 0);
+            house.go(1);
+        }
+        house.order(team, slot, 0, 0);
+        Check.due("the place of " + team + " " + slot, house.place(team, slot), place);
+    }
+
     /** Plays jams of 120 seconds without points, each with its line-up, until the period is over. */
     static void playPeriod(Jamhouse house) {
         for (int i = 0; i < 60 && house.clock() < 1800; i++) {
