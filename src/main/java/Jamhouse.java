@@ -558,7 +558,7 @@ public final class Jamhouse {
             return true;
         }
         goThrough(mirror);
-        return mirror.isLike(jam) && jam.points[0] <= jam.passes[0] && jam.points[1] <= jam.passes[1];
+        return mirror.isSameAs(jam) && jam.points[0] <= jam.passes[0] && jam.points[1] <= jam.passes[1];
     }
 
     // What the calls above share.
@@ -1295,7 +1295,7 @@ public final class Jamhouse {
             return CALL_OFF;
         }
 
-        boolean isLike(Jam other) {
+        boolean isSameAs(Jam other) {
             for (int i = 0; i < PLAYERS; i++) {
                 if (!players[i].isLike(other.players[i])) {
                     return false;

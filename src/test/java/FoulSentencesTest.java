@@ -83,6 +83,8 @@ public final class FoulSentencesTest {
             jams++;
         }
         house.start();
+        Check.due("none of the last letter", house.marks(0, 3, 'z'), 0);
+        Check.due("nor of any", house.marks(0, 3, 'f'), 0);
         Check.badArgument("'f'", () -> house.penalty(0, 3, 'f'));
         Check.badArgument("below 'a'", () -> house.penalty(0, 3, '`'));
         Check.badArgument("beyond 'z'", () -> house.penalty(0, 3, '{'));

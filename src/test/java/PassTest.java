@@ -220,12 +220,13 @@ public final class PassTest {
     private static void promise40Points() {
         Jamhouse house = Houses.jam();
         house.order(0, 0, 9, 0);
-        int lapped = 0;
+        int[] places = {-10, 9, 7, 5, 3};
         for (int i = 0; i < 120; i++) {
             house.go(1);
-            lapped = 0;
+            int own = house.place(0, 0);
+            int lapped = 0;
             for (int slot = 0; slot < 5; slot++) {
-                lapped += house.place(0, 0) - house.place(1, slot) >= 240 ? 1 : 0;
+                lapped += own - places[slot] >= 240 ? 1 : 0;
             }
             Check.due("points", house.points(0), lapped);
         }
