@@ -157,7 +157,7 @@ public final class RandomRunTest {
         for (int i = 0; i < 4; i++) {
             int far = 0;
             try {
-                far = house.place(team, 1) - house.place(team, 0);
+                far = seen("place", team, 1) - seen("place", team, 0);
             } catch (RuntimeException e) {
                 return;
             }
@@ -202,7 +202,7 @@ public final class RandomRunTest {
                 n[2] = number(7);
                 break;
             case "correct", "eventAt", "review":
-                int event = number(Math.max(1, house.events()));
+                int event = number(Math.max(1, seen("events", 0, 0)));
                 n[0] = name.equals("review") ? n[0] : event;
                 n[1] = event;
                 break;
@@ -215,7 +215,7 @@ public final class RandomRunTest {
                 n[2] = random.nextInt(20) == 0 ? 100 : random.nextInt(4);
                 break;
             case "jamPoints":
-                n[0] = number(Math.max(1, house.jams()));
+                n[0] = number(Math.max(1, seen("jams", 0, 0)));
                 n[1] = number(2);
                 break;
             case "penalty", "marks":
@@ -234,8 +234,8 @@ public final class RandomRunTest {
     private void near(int[] n) {
         for (int i = 0; i < 12 && random.nextInt(10) > 0; i++) {
             try {
-                if (Math.abs(house.place(n[0], n[1]) - house.place(1 - n[0], n[2])) <= 3
-                        && Math.abs(house.lane(n[0], n[1]) - house.lane(1 - n[0], n[2])) <= 1) {
+                if (Math.abs(seen("place", n[0], n[1]) - seen("place", 1 - n[0], n[2])) <= 3
+                        && Math.abs(seen("lane", n[0], n[1]) - seen("lane", 1 - n[0], n[2])) <= 1) {
                     return;
                 }
             } catch (RuntimeException e) {
@@ -245,6 +245,11 @@ public final class RandomRunTest {
             n[1] = random.nextInt(5);
             n[2] = random.nextInt(5);
         }
+    }
+
+    /** Asks the plain house, so that the calls of the other one stay 512. */
+    private int seen(String name, int first, int second) {
+        return (int) plain.call(name, new int[] {first, second, 0, 0}, 'a', 'f', false);
     }
 
     private int number(int count) {
