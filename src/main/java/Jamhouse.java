@@ -1172,8 +1172,11 @@ public final class Jamhouse {
             boolean hasSecond = false;
             for (int i = 0; i < count; i++) {
                 Player player = byPlace[i];
-                hasFirst |= player.team == 0;
-                hasSecond |= player.team == 1;
+                if (player.team == 0) {
+                    hasFirst = true;
+                } else {
+                    hasSecond = true;
+                }
                 if (i + 1 == count || byPlace[i + 1].place - player.place > PACK_GAP) {
                     int size = hasFirst && hasSecond ? i + 1 - from : 0;
                     isShared = size == greatest || isShared && size < greatest;

@@ -22,8 +22,10 @@ public final class BlockSentencesTest {
         lessA20thOfTiredness();
         theOtherOnesStrength();
         downFor2Seconds();
+        downWithoutTiring();
         nothing();
         pushedALaneAway();
+        pushedAndStillShifting();
         toTheGreaterSideFromTheSameLane();
         pushedOut();
         atTheEdgeTheLane0Or4();
@@ -311,6 +313,25 @@ public final class BlockSentencesTest {
         Check.due("again", house.standing(1, 3), 'u');
     }
 
+    /** Only going forward tires: being sent down does not, nor does sending. */
+    private static void downWithoutTiring() {
+        Jamhouse house = Houses.jam(8, 5);
+        Check.due("down", house.block(0, 3, 3, 'h', 'f'), 'd');
+        house.go(2);
+        house.order(0, 3, 1, 0);
+        house.order(1, 3, 1, 0);
+        house.go(19);
+        house.order(0, 3, 9, 0);
+        house.order(1, 3, 9, 0);
+        int[] places = {house.place(0, 3), house.place(1, 3)};
+        house.go(1);
+        Check.due("19 of tiredness, who sent", house.place(0, 3) - places[0], 9);
+        Check.due("19 of tiredness, who was down", house.place(1, 3) - places[1], 9);
+        house.go(1);
+        Check.due("23, who sent", house.place(0, 3) - places[0], 17);
+        Check.due("23, who was down", house.place(1, 3) - places[1], 17);
+    }
+
     /** Less than 0, nothing, 'n'. */
     private static void nothing() {
         Jamhouse house = Houses.jam(4, 5);
@@ -334,6 +355,18 @@ public final class BlockSentencesTest {
         Check.due("one lane", lesser.lane(0, 3), 3);
         Check.due("its place", lesser.place(1, 2), 7);
         Check.due("up", lesser.standing(1, 2), 'u');
+    }
+
+    /** Who is pushed moves as it was told. */
+    private static void pushedAndStillShifting() {
+        Jamhouse house = Houses.jam();
+        house.order(1, 2, 2, 1);
+        Check.due("from the lane 2 to 3", house.block(0, 2, 2, 'h', 's'), 'm');
+        house.go(1);
+        Check.due("a lane more", house.lane(1, 2), 4);
+        Check.due("as far as told", house.place(1, 2), 9);
+        house.go(1);
+        Check.due("and out", house.standing(1, 2), 'o');
     }
 
     /** To the greater side from the same lane: of each lane. */

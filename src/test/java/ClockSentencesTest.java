@@ -6,6 +6,7 @@ public final class ClockSentencesTest {
     public static void main(String[] args) {
         aLineUpTakes30Seconds();
         noneBehindATimeOut();
+        noneBehindATimeOutAndNextPeriod();
         aPeriodIsOverWith1800Seconds();
         betweenJams();
         thereAreTwo();
@@ -71,6 +72,28 @@ public final class ClockSentencesTest {
             endBehind(house, 5);
             house.start();
             Check.due("one behind that", house.clock(), 75);
+        }
+    }
+
+    /** None behind a time-out, on either side of nextPeriod. */
+    private static void noneBehindATimeOutAndNextPeriod() {
+        for (int order = 0; order < 3; order++) {
+            Jamhouse house = Houses.game(5, 5);
+            Houses.playPeriod(house);
+            if (order == 0) {
+                house.timeout(1);
+            }
+            house.nextPeriod();
+            if (order == 1) {
+                house.timeout(1);
+            }
+            Check.due("the second period begins", house.clock(), 0);
+            int lineUp = order == 2 ? 30 : 0;
+            house.start();
+            Check.due("the line-up behind " + order, house.clock(), lineUp);
+            endBehind(house, 5);
+            house.start();
+            Check.due("the next one", house.clock(), lineUp + 35);
         }
     }
 
@@ -281,6 +304,7 @@ public final class ClockSentencesTest {
             house.finish();
             house.game(0, 1);
             Check.due("in the next game", house.timeout(team), 2);
+            Check.due("of who had some left, too", house.timeout(1 - team), 2);
         }
     }
 

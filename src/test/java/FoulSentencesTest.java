@@ -185,8 +185,10 @@ public final class FoulSentencesTest {
                 house.penalty(team, slots[i], 'a');
                 Check.due("the seat " + i, house.standing(team, slots[i]), i < 3 ? 's' : 'q');
             }
-            house.penalty(1 - team, 2, 'a');
-            Check.due("the other team's", house.standing(1 - team, 2), 's');
+            for (int i = 0; i < 5; i++) {
+                house.penalty(1 - team, slots[4 - i], 'a');
+                Check.due("the other team's seat " + i, house.standing(1 - team, slots[4 - i]), i < 3 ? 's' : 'q');
+            }
         }
     }
 

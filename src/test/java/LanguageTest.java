@@ -18,6 +18,7 @@ public final class LanguageTest {
         "->", "::", "\\bcatch\\b", "\\btry\\b", "\\bfinally\\b", "\\bsynchronized\\b", "\\bassert\\b", "\\bvar\\b",
         "\\bpackage\\b", "\\bstatic \\{", "Exact\\(", "\\bSystem\\.", "\\bObject\\b", "\\bfloorMod\\b",
         "\\bprotected\\b", "\"", "\\bextends\\b", "\\bnull\\b",
+        "\\w \\|= .*[!=<>]=", "\\w &= .*[!=<>]=", "\\w [&|] [!a-z]",
     };
 
     private LanguageTest() {

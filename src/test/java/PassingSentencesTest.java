@@ -12,6 +12,7 @@ public final class PassingSentencesTest {
         aStarThatIsBackInThisSecond();
         anOpponentWhoIsNotOut();
         anOpponentWhoWasNotInTheBox();
+        anOpponentWhoIsDown();
         eachOpponentIsToldByItself();
         eachPassIsKeptOnce();
         keptOnceForBothStars();
@@ -208,6 +209,27 @@ public final class PassingSentencesTest {
         Check.due("back", served.standing(1, 4), 'u');
         Check.due("it came from ahead to behind", served.place(1, 4), -18);
         Check.isFalse("which is no pass", served.hasPassed(1, 4, 0));
+    }
+
+    /** Who is down is not out and not in the box, and so is passed; but does not count for the pack. */
+    private static void anOpponentWhoIsDown() {
+        Jamhouse house = Houses.jam(9, 0);
+        Houses.send(house, 0, 0, 6);
+        Check.due("down", house.block(0, 2, 2, 'h', 'f'), 'd');
+        house.order(0, 0, 1, 0);
+        house.go(1);
+        Check.due("still down", house.standing(1, 2), 'd');
+        Check.isTrue("passed", house.hasPassed(1, 2, 0));
+        Check.due("as those who are up", house.passes(0), 3);
+        Houses.send(house, 0, 0, 229);
+        Check.due("down again", house.block(0, 2, 2, 'h', 'f'), 'd');
+        Check.due("and those behind", house.points(0), 0);
+        Houses.send(house, 0, 0, 243);
+        Check.isFalse("not yet", house.hasPassed(1, 2, 1));
+        Check.due("down again", house.block(0, 2, 2, 'h', 'f'), 'd');
+        Houses.send(house, 0, 0, 247);
+        Check.isTrue("in the lap 1, too", house.hasPassed(1, 2, 1));
+        Check.due("for a point, too, as the star and two others", house.points(0), 4);
     }
 
     /** That number is the lap of the pass, told with the opponent: of each slot by itself. */
@@ -652,6 +674,7 @@ public final class PassingSentencesTest {
     /** With those for who is in the box or out. */
     private static void inOvertimeWithThoseWhoAreAbsent() {
         Jamhouse house = Houses.overtime();
+        house.go(90);
         house.order(1, 1, 0, -1);
         house.penalty(1, 2, 'a');
         Houses.send(house, 0, 0, 2);
